@@ -299,7 +299,7 @@ public final class EventGraphText {
             return sites[slot] + SITES * numbers[slot];
         }
 
-        /** The event with all its ancestors; empty for NO_EVENT, so that a merge without a base starts from nothing. */
+        /** Empty for NO_EVENT, so that a merge without a base starts from nothing. */
         long upTo(int slot) {
             return slot == NO_EVENT ? 0L : ancestors[slot] | bit(slot);
         }
@@ -506,9 +506,8 @@ public final class EventGraphText {
             return START;
         }
 
-        /** Sites that do not know of one another may have given the holder other children: those with greater identifiers stand behind. */
         private int leftPosition(History history, int slot, int holder) {
-            long behind = siblingsOf(history, slot, holder, false);
+            long behind = nearerSiblings(history, slot, holder, false);
             int k = 0;
             while (k < count && order[k] != holder && (chains[order[k]] & behind) == 0) {
                 k++;
@@ -517,7 +516,7 @@ public final class EventGraphText {
         }
 
         private int rightPosition(History history, int slot, int holder) {
-            long before = siblingsOf(history, slot, holder, true);
+            long before = nearerSiblings(history, slot, holder, true);
             int k = count;
             while (k > 0 && order[k - 1] != holder && (chains[order[k - 1]] & before) == 0) {
                 k--;
@@ -525,8 +524,12 @@ public final class EventGraphText {
             return k;
         }
 
-        /** Right children with lesser identifiers, or left children with greater ones: those nearer to the holder on the right, on the left. */
-        private long siblingsOf(History history, int slot, int holder, boolean right) {
+        /**
+         * The holder may have other children on that side, made by sites that did not know of this one.
+         * Identifiers grow from left to right, so those between it and the holder have greater ones on
+         * the left and lesser ones on the right.
+         */
+        private long nearerSiblings(History history, int slot, int holder, boolean right) {
             long children = childrenOf(holder, right);
             long nearer = 0L;
             for (int k = 0; k < count; k++) {
