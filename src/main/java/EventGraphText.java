@@ -567,7 +567,7 @@ public final class EventGraphText {
             applyAll(history, characters, line, before);
         }
 
-        /** Every step leaves the version as the event with its ancestors, so the moves are where the two sets differ. */
+        /** Each step leaves the version as an event with its ancestors: the moves are where the two sets differ. */
         private long passThrough(History history, Line line, long start) {
             long version = start;
             for (int k = 0; k < line.size(); k++) {

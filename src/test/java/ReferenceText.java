@@ -415,7 +415,10 @@ final class ReferenceText {
     }
 
     int operation(int r, int k) {
-        return badSite(r) || !sites[r].merged || k < 0 || k >= sites[r].operations.size() ? NONE : sites[r].operations.get(k);
+        if (badSite(r) || !sites[r].merged || k < 0 || k >= sites[r].operations.size()) {
+            return NONE;
+        }
+        return sites[r].operations.get(k);
     }
 
     /** Whether the text that the operations made is the one that the list of the graph shows. */
