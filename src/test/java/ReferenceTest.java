@@ -1,20 +1,25 @@
+import java.util.ArrayList;
+import java.util.List;
 import java.util.Random;
 
 /** Runs of calls, drawn with fixed seeds, on the program and on the reference: the answers must be the same. */
 public final class ReferenceTest {
-    private static final int RUNS = 1500;
-    private static final int[] STRANGE = {-1, 3, 6, 40, 127, 1000, -1000, Integer.MAX_VALUE, Integer.MIN_VALUE};
+    private static final int RUNS = 3000;
+    private static final int MOST_CALLS_DRAWN = 300;
+    private static final int[] STRANGE = {-1, 3, 6, 40, 64, 127, 1000, -1000, Integer.MAX_VALUE, Integer.MIN_VALUE};
 
     private final Checks checks;
     private final Random random;
-    private final EventGraphText x = new EventGraphText();
+    private final Run run;
     private final ReferenceText y = new ReferenceText();
-    private final String run;
+    private final String part;
+    private final List<Call> script = new ArrayList<>();
 
     private ReferenceTest(Checks checks, int seed) {
         this.checks = checks;
         this.random = new Random(seed);
-        this.run = "run " + seed + ": ";
+        this.part = "run " + seed;
+        this.run = new Run(checks, part);
     }
 
     public static void main(String[] args) {
@@ -31,19 +36,22 @@ public final class ReferenceTest {
         int sends = 1 + random.nextInt(10);
         int hears = random.nextInt(4);
         int discards = 1 + random.nextInt(5);
-        int[] weights = {10, deletes, sends, sends + 2, discards, hears};
-        int calls = 20 + random.nextInt(130);
+        int strange = random.nextInt(3);
+        int queries = random.nextInt(20);
+        int[] weights = {10, deletes, sends, sends + 2, discards, hears, strange, queries};
+        int calls = 20 + random.nextInt(MOST_CALLS_DRAWN - 20);
         for (int k = 0; k < calls && !checks.anyWrong(); k++) {
-            change(draw(weights));
-            if (random.nextInt(8) == 0 || k == calls - 1) {
-                compareSites();
-                compareMessages();
-                comparePairs();
-            }
-            if (random.nextInt(12) == 0) {
-                compareStrange();
-            }
+            compare(drawn(draw(weights)));
         }
+        for (int r = 0; r < 3; r++) {
+            checks.due(part + ", the reference's text is its list at " + r, y.textIsTheList(r), true);
+        }
+        new View(y).check(checks, part + ", at its end", script);
+    }
+
+    private void compare(Call call) {
+        script.add(call);
+        run.due(call.ask(y), call);
     }
 
     private int draw(int[] weights) {
@@ -60,99 +68,64 @@ public final class ReferenceTest {
         return kind;
     }
 
-    private void due(String call, long got, long want) {
-        checks.due(run + call, got, want);
-    }
-
-    private void change(int kind) {
+    private Call drawn(int kind) {
         int r = random.nextInt(3);
         int to = random.nextInt(20) == 0 ? random.nextInt(3) : (r + 1 + random.nextInt(2)) % 3;
         int m = random.nextInt(6);
-        if (kind == 0) {
-            int index = random.nextInt(y.length(r) + 1);
-            int c = random.nextInt(4) == 0 ? 32 + random.nextInt(95) : 97 + random.nextInt(6);
-            due("insert(" + r + ", " + index + ", " + c + ")", x.insert(r, index, c), y.insert(r, index, c));
-        } else if (kind == 1) {
-            int index = random.nextInt(y.length(r) + 1);
-            due("delete(" + r + ", " + index + ")", x.delete(r, index), y.delete(r, index));
-        } else if (kind == 2) {
-            due("send(" + r + ", " + to + ")", x.send(r, to), y.send(r, to));
-        } else if (kind == 3) {
-            due("deliver(" + m + ")", x.deliver(m), y.deliver(m));
-        } else if (kind == 4) {
-            due("discard(" + m + ")", x.discard(m) ? 1 : 0, y.discard(m) ? 1 : 0);
-        } else {
-            due("hear(" + r + ", " + to + ")", x.hear(r, to), y.hear(r, to));
-        }
+        int c = random.nextInt(4) == 0 ? 32 + random.nextInt(95) : 97 + random.nextInt(6);
+        return switch (kind) {
+            case 0 -> new Call("insert", r, random.nextInt(y.length(r) + 1), c);
+            case 1 -> new Call("delete", r, random.nextInt(y.length(r) + 1));
+            case 2 -> new Call("send", r, to);
+            case 3 -> new Call("deliver", m);
+            case 4 -> new Call("discard", m);
+            case 5 -> new Call("hear", r, to);
+            case 6 -> strangeCall();
+            default -> query();
+        };
     }
 
-    private void compareSites() {
-        for (int r = -1; r <= 3; r++) {
-            due("length(" + r + ")", x.length(r), y.length(r));
-            due("events(" + r + ")", x.events(r), y.events(r));
-            due("heads(" + r + ")", x.heads(r), y.heads(r));
-            due("critical(" + r + ")", x.critical(r), y.critical(r));
-            due("replayed(" + r + ")", x.replayed(r), y.replayed(r));
-            due("moves(" + r + ")", x.moves(r), y.moves(r));
-            for (int k = -1; k <= 41; k++) {
-                due("at(" + r + ", " + k + ")", x.at(r, k), y.at(r, k));
-                due("operation(" + r + ", " + k + ")", x.operation(r, k), y.operation(r, k));
-            }
-            for (int k = -1; k <= 4; k++) {
-                due("head(" + r + ", " + k + ")", x.head(r, k), y.head(r, k));
-            }
-        }
-        for (int r = 0; r < 3; r++) {
-            checks.due(run + "the reference's text is its list at " + r, y.textIsTheList(r), true);
-        }
-    }
-
-    private void compareMessages() {
-        for (int m = -1; m <= 6; m++) {
-            due("octets(" + m + ")", x.octets(m), y.octets(m));
-            int size = y.octets(m);
-            for (int k = -1; k <= size + 1; k++) {
-                due("octet(" + m + ", " + k + ")", x.octet(m, k), y.octet(m, k));
-            }
-        }
-    }
-
-    private void comparePairs() {
-        for (int a = -1; a <= 3; a++) {
-            for (int b = -1; b <= 3; b++) {
-                due("believed(" + a + ", " + b + ")", x.believed(a, b), y.believed(a, b));
-            }
-        }
-        for (int k = 0; k < 40; k++) {
-            int a = random.nextInt(3);
-            int i = random.nextInt(18) - 1;
-            int b = random.nextInt(3);
-            int j = random.nextInt(18) - 1;
-            due("ancestor(" + a + ", " + i + ", " + b + ", " + j + ")", x.ancestor(a, i, b, j), y.ancestor(a, i, b, j));
-        }
+    private Call query() {
+        int r = random.nextInt(3);
+        int m = random.nextInt(6);
+        return switch (random.nextInt(13)) {
+            case 0 -> new Call("length", r);
+            case 1 -> new Call("at", r, random.nextInt(y.length(r) + 1));
+            case 2 -> new Call("believed", r, (r + 1 + random.nextInt(2)) % 3);
+            case 3 -> new Call("octets", m);
+            case 4 -> new Call("octet", m, random.nextInt(Math.max(0, y.octets(m)) + 1));
+            case 5 -> new Call("events", r);
+            case 6 -> new Call("heads", r);
+            case 7 -> new Call("head", r, random.nextInt(y.heads(r) + 1));
+            case 8 -> new Call("critical", r);
+            case 9 -> new Call("replayed", r);
+            case 10 -> new Call("moves", r);
+            case 11 -> new Call("operation", r, random.nextInt(10));
+            default -> new Call("ancestor", r, random.nextInt(14), random.nextInt(3), random.nextInt(14));
+        };
     }
 
     private int strange() {
         return random.nextInt(3) == 0 ? random.nextInt(3) : STRANGE[random.nextInt(STRANGE.length)];
     }
 
-    private void compareStrange() {
+    private Call strangeCall() {
         int a = strange();
         int b = strange();
         int c = random.nextBoolean() ? strange() : 97;
-        int d = strange();
-        String arguments = "(" + a + ", " + b + ", " + c + ", " + d + ")";
-        due("insert" + arguments, x.insert(a, b, c), y.insert(a, b, c));
-        due("delete" + arguments, x.delete(a, b), y.delete(a, b));
-        due("at" + arguments, x.at(a, b), y.at(a, b));
-        due("send" + arguments, x.send(a, b), y.send(a, b));
-        due("hear" + arguments, x.hear(a, b), y.hear(a, b));
-        due("believed" + arguments, x.believed(a, b), y.believed(a, b));
-        due("octet" + arguments, x.octet(a, b), y.octet(a, b));
-        due("head" + arguments, x.head(a, b), y.head(a, b));
-        due("ancestor" + arguments, x.ancestor(a, b, c, d), y.ancestor(a, b, c, d));
-        due("operation" + arguments, x.operation(a, b), y.operation(a, b));
-        due("deliver" + arguments, x.deliver(a), y.deliver(a));
-        due("discard" + arguments, x.discard(d) ? 1 : 0, y.discard(d) ? 1 : 0);
+        return switch (random.nextInt(12)) {
+            case 0 -> new Call("insert", a, b, c);
+            case 1 -> new Call("delete", a, b);
+            case 2 -> new Call("at", a, b);
+            case 3 -> new Call("send", a, b);
+            case 4 -> new Call("hear", a, b);
+            case 5 -> new Call("believed", a, b);
+            case 6 -> new Call("octet", a, b);
+            case 7 -> new Call("head", a, b);
+            case 8 -> new Call("ancestor", a, b, c, strange());
+            case 9 -> new Call("operation", a, b);
+            case 10 -> new Call("deliver", a);
+            default -> new Call("discard", a);
+        };
     }
 }
