@@ -164,9 +164,9 @@ public final class GraphEdgesTest {
     /** Head 0 has the greater number, and the greater answer. */
     private void headsByTheSiteFirst() {
         Run run = start("15: by the site, then by the number");
-        run.type(0, "abcdefgh");
         run.type(1, "i");
         run.type(2, "jk");
+        run.type(0, "abcdefgh");
         run.pass(0, 2);
         run.pass(1, 2);
         run.due(3 * 7, "head", 2, 0);

@@ -64,6 +64,7 @@ public final class MessageEdgesTest {
         leastFreeNumber();
         messageKeepsWhatItCarries();
         refusedSendBelievesNothing();
+        sendChangesOneSetOnly();
     }
 
     private void sendBetweenNoTwoSites() {
@@ -213,6 +214,28 @@ public final class MessageEdgesTest {
         run.due(1, "octet", 5, 0);
     }
 
+    private void sendChangesOneSetOnly() {
+        for (int from = 0; from < 3; from++) {
+            for (int to = 0; to < 3; to++) {
+                if (from != to) {
+                    Run run = startWithTexts("6: BELIEVED(" + from + ", " + to + ") and no other");
+                    run.due(0, "send", from, to);
+                    dueBelievedInOneSet(run, from, to, run.ask("events", from));
+                }
+            }
+        }
+    }
+
+    private void dueBelievedInOneSet(Run run, int from, int to, int want) {
+        for (int a = 0; a < 3; a++) {
+            for (int b = 0; b < 3; b++) {
+                if (a != b) {
+                    run.due(a == from && b == to ? want : 0, "believed", a, b);
+                }
+            }
+        }
+    }
+
     private void delivering() {
         deliverNoMessage();
         deliverADiscardedMessage();
@@ -226,6 +249,8 @@ public final class MessageEdgesTest {
         ownEventsComeBack();
         fortyEventsAreNew();
         deliveredOften();
+        deliveryChangesOneSetOnly();
+        carriedEventsOnlyAreBelieved();
     }
 
     private void deliverNoMessage() {
@@ -421,6 +446,27 @@ public final class MessageEdgesTest {
         run.due(1, "send", 0, 2);
         run.due(YES, "discard", 0);
         run.due(NONE, "deliver", 0);
+    }
+
+    private void deliveryChangesOneSetOnly() {
+        Run run = startWithTexts("7: BELIEVED(b, a) and no other");
+        run.due(0, "send", 0, 1);
+        run.due(0, "hear", 0, 1);
+        run.due(2, "deliver", 0);
+        dueBelievedInOneSet(run, 1, 0, 2);
+    }
+
+    /** Both sites have the event of site 2, but the message does not tell so. */
+    private void carriedEventsOnlyAreBelieved() {
+        Run run = start("7: the carried events and all their ancestors, and no other");
+        run.type(0, "a");
+        run.due(0, "send", 0, 1);
+        run.type(2, "c");
+        run.pass(2, 0);
+        run.pass(2, 1);
+        run.due(1, "deliver", 0);
+        run.due(2, "events", 1);
+        run.due(1, "believed", 1, 0);
     }
 
     private void discarding() {
