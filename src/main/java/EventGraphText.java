@@ -57,12 +57,12 @@ public final class EventGraphText {
             return NONE;
         }
         long graph = sites[r].graph;
-        long shown = characters.shownIn(graph);
-        if (index < 0 || index >= Long.bitCount(shown)) {
+        int character = characters.shownAt(characters.shownIn(graph), index);
+        if (character == NO_EVENT) {
             return NONE;
         }
         int slot = history.record(r, index, NO_CHARACTER, graph);
-        characters.hide(slot, characters.shownAt(shown, index));
+        characters.hide(slot, character);
         sites[r].graph = graph | bit(slot);
         return history.numberOf(slot);
     }
@@ -75,11 +75,8 @@ public final class EventGraphText {
         if (!isSite(r)) {
             return NONE;
         }
-        long shown = characters.shownIn(sites[r].graph);
-        if (k < 0 || k >= Long.bitCount(shown)) {
-            return NONE;
-        }
-        return history.characterOf(characters.shownAt(shown, k));
+        int slot = characters.shownAt(characters.shownIn(sites[r].graph), k);
+        return slot == NO_EVENT ? NONE : history.characterOf(slot);
     }
 
     public int send(int from, int to) {
@@ -158,17 +155,16 @@ public final class EventGraphText {
     }
 
     public int head(int r, int k) {
-        if (!isSite(r)) {
+        if (!isSite(r) || k < 0) {
             return NONE;
         }
         long rest = history.headsOf(sites[r].graph);
-        if (k < 0 || k >= Long.bitCount(rest)) {
-            return NONE;
+        int head = history.leastOf(rest);
+        for (int passed = 0; passed < k && head != NO_EVENT; passed++) {
+            rest &= ~bit(head);
+            head = history.leastOf(rest);
         }
-        for (int passed = 0; passed < k; passed++) {
-            rest &= ~bit(history.leastOf(rest));
-        }
-        return history.codeOf(history.leastOf(rest));
+        return head == NO_EVENT ? NONE : history.codeOf(head);
     }
 
     public int ancestor(int a, int i, int b, int j) {
@@ -392,15 +388,15 @@ public final class EventGraphText {
         private int count = 0;
 
         void arrange(History history, long set) {
-            int size = Long.bitCount(set);
             long waiting = set;
-            int last = NO_EVENT;
-            for (int k = 0; k < size; k++) {
-                last = history.nextOf(waiting, last);
-                slots[k] = last;
-                waiting &= ~bit(last);
+            int next = history.nextOf(waiting, NO_EVENT);
+            count = 0;
+            while (count < MOST_EVENTS && next != NO_EVENT) {
+                slots[count] = next;
+                count++;
+                waiting &= ~bit(next);
+                next = history.nextOf(waiting, next);
             }
-            count = size;
         }
 
         int size() {
@@ -446,6 +442,7 @@ public final class EventGraphText {
             return set & inserts & ~hidden;
         }
 
+        /** NO_EVENT if no character is shown at that index. */
         int shownAt(long shown, int index) {
             int passed = 0;
             for (int k = 0; k < count; k++) {
@@ -456,7 +453,7 @@ public final class EventGraphText {
                     passed++;
                 }
             }
-            return START;
+            return NO_EVENT;
         }
 
         int indexIn(long shown, int character) {
@@ -681,11 +678,12 @@ public final class EventGraphText {
         private void writeParentList(History history, long parents) {
             int size = Long.bitCount(parents);
             long rest = parents;
+            int parent = history.leastOf(rest);
             octets.put(1 + size);
-            for (int k = 0; k < size; k++) {
-                int parent = history.leastOf(rest);
+            for (int k = 0; k < size && parent != NO_EVENT; k++) {
                 octets.put(history.codeOf(parent));
                 rest &= ~bit(parent);
+                parent = history.leastOf(rest);
             }
         }
     }
